@@ -29,14 +29,14 @@ final class Due {
         is(what, got ? 1 : 0, want ? 1 : 0);
     }
 
-    /** The call throws just this on a town made by the setup, and changes nothing of it. */
+    /** The call throws just this, by its own code, on a town made by the setup, and changes nothing of it. */
     void refused(String what, Class<? extends RuntimeException> want, Setup setup, Call call) {
         ScripHollow called = setup.make();
         String got = "nothing";
         try {
             call.on(called);
         } catch (RuntimeException e) {
-            got = e.getClass().getName();
+            got = e.getClass().getName() + (isOwn(e) ? "" : " of the machine or the library");
         }
         if (!got.equals(want.getName())) {
             wrong++;
@@ -83,17 +83,23 @@ final class Due {
 
     interface Answer { long get(); }
 
-    /** What a call answers, or a number below all answers for what it throws. */
+    /** What a call answers, or a number below all answers for what it throws by its own code. */
     static long answer(Answer call) {
         try {
             return call.get();
-        } catch (IndexOutOfBoundsException e) {
-            return Long.MIN_VALUE;
-        } catch (IllegalArgumentException e) {
-            return Long.MIN_VALUE + 1;
-        } catch (IllegalStateException e) {
-            return Long.MIN_VALUE + 2;
+        } catch (IndexOutOfBoundsException | IllegalArgumentException | IllegalStateException e) {
+            if (!isOwn(e)) {
+                throw e;
+            }
+            return e.getClass() == INDEX ? Long.MIN_VALUE : e.getClass() == ARGUMENT ? Long.MIN_VALUE + 1
+                    : Long.MIN_VALUE + 2;
         }
+    }
+
+    /** Whether the class threw it, rather than the machine or the library below it. */
+    private static boolean isOwn(RuntimeException e) {
+        StackTraceElement[] stack = e.getStackTrace();
+        return stack.length > 0 && stack[0].getClassName().equals("ScripHollow");
     }
 
     private static int countMiners(ScripHollow x) {

@@ -22,7 +22,8 @@ public final class EndTest {
         ScripHollow x = Towns.of(2);
         x.edition(0);
         x.limit(1000);
-        x.buy(0, 2, 5);
+        x.buy(0, 2, 3);
+        x.buy(0, 0, 2); // 11 each, by the debt of 30
         x.buy(1, 2, 4);
         Towns.payCoin(x, 11, 12);
         Towns.pay(x, 13, 14);
@@ -38,7 +39,7 @@ public final class EndTest {
         ScripHollow x = estate();
         due.is("die(0)", x.die(0), 1);
         int[] dead = {0, 0, 0, 0, 0, 0, 0, 0, 15, 1};
-        int[] heir = {1, 0, 23, 58, 90, 14, 1, 0, 16, -1};
+        int[] heir = {1, 0, 23, 58, 92, 14, 1, 0, 16, -1};
         for (int what = 0; what < 10; what++) {
             due.is("about(0, " + what + ")", x.about(0, what), dead[what]);
             due.is("about(1, " + what + ")", x.about(1, what), heir[what]);
@@ -46,8 +47,10 @@ public final class EndTest {
         due.is("by its issues", x.scrip(1, 1), 27);
         due.is("by its issues", x.scrip(1, 2), 31);
         due.is("the dead one's", x.scrip(0, 2), 0);
-        due.is("goods", x.has(1, 2), 9);
+        due.is("goods", x.has(1, 2), 7);
+        due.is("goods 0", x.has(1, 0), 2);
         due.is("the dead one's goods", x.has(0, 2), 0);
+        due.is("the dead one's goods 0", x.has(0, 0), 0);
         due.is("anew", x.scripAnew(1), 58);
         due.is("anew, of the dead", x.scripAnew(0), 0);
         due.is("nothing was gone", x.books(4), 0);
@@ -72,7 +75,7 @@ public final class EndTest {
             due.is("the dead one's arrears", x.about(0, 5), 0);
             due.is("coin", x.about(1, 2), 23);
             due.is("scrip", x.about(1, 3), 58);
-            due.is("goods", x.has(1, 2), 9);
+            due.is("goods", x.has(1, 2), 7);
             due.is("it is no breach", x.breaches(), 0);
         }
     }
@@ -90,6 +93,8 @@ public final class EndTest {
         due.is("the other's scrip", x.about(1, 3), 30);
         due.is("the other's debt", x.about(1, 4), 40);
         due.is("anew", x.scripAnew(0), 0);
+        x.die(1);
+        due.is("what was gone by both", x.books(4), 58);
     }
 
     private static void heirs() {

@@ -266,7 +266,8 @@ final class Model {
             for (int m = 0; m < held.length; m++) {
                 long coin = held[m];
                 if (begin < total) {
-                    coin = BigInteger.valueOf(held[m]).multiply(BigInteger.valueOf(begin)).divide(BigInteger.valueOf(total)).longValue();
+                    BigInteger product = BigInteger.valueOf(held[m]).multiply(BigInteger.valueOf(begin));
+                    coin = product.divide(BigInteger.valueOf(total)).longValue();
                 }
                 people.get(m).coin += coin;
                 money -= coin;

@@ -93,7 +93,10 @@ public final class ModelTest {
 
     /** What the class answers, and what is due. */
     private long[] once(int kind) {
-        return kind < 8 ? coalOrPayday(kind) : kind < 17 ? houseOrStore(kind) : kind < 26 ? lawOrEnd(kind) : question(kind);
+        if (kind < 17) {
+            return kind < 8 ? coalOrPayday(kind) : houseOrStore(kind);
+        }
+        return kind < 26 ? lawOrEnd(kind) : question(kind);
     }
 
     private long[] pair(Due.Answer got, long why, Due.Answer want) {
@@ -215,7 +218,8 @@ public final class ModelTest {
             }
             case 12: {
                 call = "buy" + three;
-                long why = isNone ? INDEX : isOut(many, 1, 50) ? ARGUMENT : model.whyNot(m, goods, many) != 0 ? STATE : 0;
+                long why = isNone ? INDEX : isOut(many, 1, 50) ? ARGUMENT
+                        : model.whyNot(m, goods, many) != 0 ? STATE : 0;
                 return pair(() -> x.buy(m, goods, many), why, () -> model.buy(m, goods, many));
             }
             case 13: {
@@ -346,7 +350,8 @@ public final class ModelTest {
             default: {
                 int line = in(0, 5);
                 call = "books(" + line + ")";
-                return pair(() -> x.books(line), isOut(line, 0, 5) ? INDEX : 0, () -> model.book(Model.Why.values()[line]));
+                long why = isOut(line, 0, 5) ? INDEX : 0;
+                return pair(() -> x.books(line), why, () -> model.book(Model.Why.values()[line]));
             }
         }
     }

@@ -99,6 +99,8 @@ public final class PaydayTest {
         due.is("in a strike", Towns.striking(Towns.of(1)).payday(), 0);
         ScripHollow coin = Towns.of(2);
         due.is("coin counts too", Towns.payCoin(coin, 30, 40), 70);
+        Towns.payCoin(coin, 5, 0);
+        due.is("besides the coin before", coin.about(0, 2), 35);
     }
 
     private static void deductions() {
@@ -118,6 +120,11 @@ public final class PaydayTest {
         due.is("then", Towns.pay(x, 50, 40), 4 + 2);
         due.is("the debt is paid", x.about(0, 4), 0);
         due.is("nothing came back at the store", x.books(1), 0);
+        ScripHollow later = Towns.indebted(40);
+        Towns.pay(later, 15);
+        later.edition(1);
+        due.is("the store is not in the edition", Towns.pay(later, 15), 15);
+        due.is("what it took before is not taken again", later.about(0, 4), 25);
     }
 
     private static void arrears() {
@@ -221,6 +228,12 @@ public final class PaydayTest {
         return x;
     }
 
+    private static ScripHollow homelessOwing1() {
+        ScripHollow x = homeless();
+        Towns.pay(x, 3, 0);
+        return x;
+    }
+
     private static void house() {
         due.promise(10, "house");
         ScripHollow x = homeless();
@@ -234,6 +247,7 @@ public final class PaydayTest {
         due.refused("house(2)", Due.INDEX, PaydayTest::homeless, t -> t.house(2));
         due.refused("house(-1)", Due.INDEX, PaydayTest::homeless, t -> t.house(-1));
         due.refused("with arrears", Due.STATE, PaydayTest::homeless, t -> t.house(0));
+        due.refused("with arrears of 1", Due.STATE, PaydayTest::homelessOwing1, t -> t.house(0));
         due.refused("with a house", Due.STATE, () -> Towns.of(1), t -> t.house(0));
         due.refused("not alive", Due.STATE, () -> Towns.dead(Towns.of(1), 0), t -> t.house(0));
         ScripHollow closed = homeless();

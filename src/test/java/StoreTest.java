@@ -38,6 +38,12 @@ public final class StoreTest {
         due.promise(12, "raised");
         ScripHollow x = Towns.indebted(19);
         due.is("19 are no 20", x.raised(0, 0), 10);
+        x = Towns.indebted(199);
+        x.price(0, 1, false);
+        due.is("199 are no 200", x.raised(0, 0), 1);
+        x = Towns.indebted(200);
+        x.price(0, 1, false);
+        due.is("1 times 200 by 200", x.raised(0, 0), 2);
         x = Towns.indebted(20);
         due.is("10 times 20 by 200", x.raised(0, 0), 11);
         x.price(1, 100, false);
@@ -84,7 +90,9 @@ public final class StoreTest {
         x.limit(50);
         due.is("above the limit", x.whyNot(0, 0, 1), 3);
         x.edition(0);
-        Towns.pay(x, 15);
+        Towns.pay(x, 14);
+        due.is("above the limit, and 1 more than it is", x.whyNot(0, 0, 1), 3);
+        Towns.pay(x, 1);
         due.is("above the limit, but no more than it is", x.whyNot(0, 0, 1), 0);
         due.is("and more than it is", x.whyNot(0, 0, 2), 3);
         due.is("2", Towns.dead(Towns.of(1), 0).whyNot(0, 0, 50), 2);
@@ -213,7 +221,7 @@ public final class StoreTest {
         due.refused("less scrip", Due.STATE, () -> Towns.paid(9), t -> t.change(0, 10));
         due.refused("coin alone", Due.STATE, () -> Towns.coined(9), t -> t.change(0, 1));
         due.refused("not alive", Due.STATE, () -> Towns.dead(Towns.paid(9), 0), t -> t.change(0, 1));
-        due.refused("in a closed mine, where no scrip is", Due.STATE, () -> Towns.closed(Towns.paid(9)), t -> t.change(0, 1));
+        due.refused("in a closed mine", Due.STATE, () -> Towns.closed(Towns.paid(9)), t -> t.change(0, 1));
     }
 
     private static ScripHollow rich() {
