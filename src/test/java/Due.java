@@ -1,87 +1,109 @@
 import java.util.ArrayList;
+import java.util.HashSet;
 import java.util.List;
+import java.util.Set;
 
-/** Counts the answers that are not the due ones, and prints each. */
+/** Counts the answers that are not the due ones, and prints each, by the promise and the case. */
 final class Due {
     interface Setup { ScripHollow make(); }
 
     interface Call { void on(ScripHollow x); }
 
+    interface Ask { long of(ScripHollow x); }
+
+    interface Body { void run(); }
+
+    interface Answer { long get(); }
+
     static final Class<? extends RuntimeException> INDEX = IndexOutOfBoundsException.class;
     static final Class<? extends RuntimeException> ARGUMENT = IllegalArgumentException.class;
     static final Class<? extends RuntimeException> STATE = IllegalStateException.class;
 
+    /** What answer() tells of a call that throws, below all that a call answers. */
+    static final long THREW_INDEX = Long.MIN_VALUE, THREW_ARGUMENT = Long.MIN_VALUE + 1, THREW_STATE = Long.MIN_VALUE + 2;
+
+    private final Set<String> names = new HashSet<>();
     private int wrong;
     private String promise = "";
+    private String theCase = "";
 
     void promise(int number, String name) {
-        promise = "promise " + number + ", " + name;
+        promise = "promise " + number + ", " + name + ": ";
+        theCase = "";
+    }
+
+    /** A case of the promise that has a name of its own: what it throws unasked is wrong, too. */
+    void test(String name, Body body) {
+        if (!names.add(promise + name)) {
+            tell("there are two cases of the name " + name);
+        }
+        theCase = name + ": ";
+        try {
+            body.run();
+        } catch (RuntimeException e) {
+            tell("threw " + e);
+        }
+        theCase = "";
+    }
+
+    /** A case with one answer: what is asked of a town made by the setup is this. */
+    void gives(String name, long want, Setup setup, Ask ask) {
+        test(name, () -> is("it", ask.of(setup.make()), want));
+    }
+
+    /** A case that is refused: the call throws just this, by its own code, and changes nothing of the town. */
+    void refused(String name, Class<? extends RuntimeException> want, Setup setup, Call call) {
+        test(name, () -> {
+            String got = thrownBy(setup.make(), call);
+            if (!got.equals(want.getName())) {
+                tell("threw " + got + ", due is " + want.getName());
+            }
+            hasChangedNothing(setup, call);
+        });
+    }
+
+    /** A case of a question, which changes nothing of the town. */
+    void changesNothing(String name, Setup setup, Call call) {
+        test(name, () -> hasChangedNothing(setup, call));
+    }
+
+    private void hasChangedNothing(Setup setup, Call call) {
+        List<Long> after = stateOf(() -> called(setup.make(), call));
+        List<Long> untouched = stateOf(setup);
+        if (!after.equals(untouched)) {
+            tell("changed something: " + after + " was " + untouched);
+        }
     }
 
     void is(String what, long got, long want) {
         if (got != want) {
-            wrong++;
-            System.out.println(promise + ": " + what + " answered " + got + ", due is " + want);
+            tell(what + " answered " + got + ", due is " + want);
         }
     }
 
     void is(String what, boolean got, boolean want) {
-        is(what, got ? 1 : 0, want ? 1 : 0);
+        is(what, bit(got), bit(want));
     }
 
-    /** The call throws just this, by its own code, on a town made by the setup, and changes nothing of it. */
-    void refused(String what, Class<? extends RuntimeException> want, Setup setup, Call call) {
-        ScripHollow called = setup.make();
-        String got = "nothing";
-        try {
-            call.on(called);
-        } catch (RuntimeException e) {
-            got = e.getClass().getName() + (isOwn(e) ? "" : " of the machine or the library");
-        }
-        if (!got.equals(want.getName())) {
-            wrong++;
-            System.out.println(promise + ": " + what + " threw " + got + ", due is " + want.getName());
-        }
-        List<Long> after = stateOf(called);
-        List<Long> untouched = stateOf(setup.make());
-        if (!after.equals(untouched)) {
-            wrong++;
-            System.out.println(promise + ": " + what + " changed something: " + after + " was " + untouched);
-        }
+    static long bit(boolean is) {
+        return is ? 1 : 0;
     }
 
     void end() {
-        System.out.println(wrong == 0 ? "all answers are as due" : wrong + " answers are not as due");
+        System.out.println(wrong == 0 ? "all answers are as due" + told() : wrong + " answers are not as due");
         if (wrong != 0) {
             System.exit(1);
         }
     }
 
-    /** All that can be asked of a town, then what only a change answers: the town is used up by this. */
-    static List<Long> stateOf(ScripHollow x) {
-        List<Long> state = new ArrayList<>();
-        int miners = countMiners(x);
-        state.add((long) miners);
-        for (int m = 0; m < miners; m++) {
-            addMiner(state, x, m);
-        }
-        for (int line = 0; line < 6; line++) {
-            state.add((long) x.books(line));
-        }
-        state.add((long) x.breaches());
-        addSettings(state, x);
-        for (int m = 0; m < miners; m++) {
-            state.add(x.vote(m, false) ? 1L : 0L);
-        }
-        state.add((long) x.give(1));
-        state.add(answer(() -> x.soup()));
-        state.add(answer(() -> x.strike() ? 1 : 0));
-        state.add((long) countPaydays(x));
-        state.add(answer(() -> x.close(0)));
-        return state;
+    private String told() {
+        return names.isEmpty() ? "" : ", in " + names.size() + " cases";
     }
 
-    interface Answer { long get(); }
+    private void tell(String what) {
+        wrong++;
+        System.out.println(promise + theCase + what);
+    }
 
     /** What a call answers, or a number below all answers for what it throws by its own code. */
     static long answer(Answer call) {
@@ -91,15 +113,41 @@ final class Due {
             if (!isOwn(e)) {
                 throw e;
             }
-            return e.getClass() == INDEX ? Long.MIN_VALUE : e.getClass() == ARGUMENT ? Long.MIN_VALUE + 1
-                    : Long.MIN_VALUE + 2;
+            return e.getClass() == INDEX ? THREW_INDEX : e.getClass() == ARGUMENT ? THREW_ARGUMENT : THREW_STATE;
         }
+    }
+
+    private static String thrownBy(ScripHollow x, Call call) {
+        try {
+            call.on(x);
+        } catch (RuntimeException e) {
+            return e.getClass().getName() + (isOwn(e) ? "" : " of the machine or the library");
+        }
+        return "nothing";
+    }
+
+    private static ScripHollow called(ScripHollow x, Call call) {
+        thrownBy(x, call);
+        return x;
     }
 
     /** Whether the class threw it, rather than the machine or the library below it. */
     private static boolean isOwn(RuntimeException e) {
         StackTraceElement[] stack = e.getStackTrace();
         return stack.length > 0 && stack[0].getClassName().equals("ScripHollow");
+    }
+
+    /** All that can be asked, each part of a town of its own: what one answers behind 512 calls is free. */
+    private static List<Long> stateOf(Setup setup) {
+        List<Long> state = new ArrayList<>();
+        int miners = countMiners(setup.make());
+        state.add((long) miners);
+        for (int m = 0; m < miners; m++) {
+            addMiner(state, setup.make(), m);
+        }
+        addSettings(state, setup.make());
+        addWhatComes(state, setup.make(), miners);
+        return state;
     }
 
     private static int countMiners(ScripHollow x) {
@@ -112,14 +160,6 @@ final class Due {
 
     private static boolean isMiner(ScripHollow x, int number) {
         return answer(() -> x.about(number, 0)) >= 0;
-    }
-
-    private static int countPaydays(ScripHollow x) {
-        int left = 0;
-        while (left < 41 && answer(() -> x.payday()) >= 0) {
-            left++;
-        }
-        return left;
     }
 
     private static void addMiner(List<Long> state, ScripHollow x, int m) {
@@ -139,8 +179,12 @@ final class Due {
     }
 
     private static void addSettings(List<Long> state, ScripHollow x) {
+        for (int line = 0; line < 6; line++) {
+            state.add((long) x.books(line));
+        }
+        state.add((long) x.breaches());
         state.add((long) x.dock(0));
-        state.add(x.check(false) ? 1L : 0L);
+        state.add(bit(x.check(false)));
         state.add((long) x.edition(0));
         for (int what = 0; what < 5; what++) {
             state.add((long) x.tell(what, 1));
@@ -152,8 +196,29 @@ final class Due {
         state.add((long) x.limit(0));
         state.add((long) x.discount(0));
         for (int law = 0; law < 3; law++) {
-            state.add(x.law(law, false) ? 1L : 0L);
+            state.add(bit(x.law(law, false)));
         }
-        state.add(x.obey(false) ? 1L : 0L);
+        state.add(bit(x.obey(false)));
+    }
+
+    /** What only a change tells. */
+    private static void addWhatComes(List<Long> state, ScripHollow x, int miners) {
+        for (int m = 0; m < miners; m++) {
+            state.add(bit(x.vote(m, false)));
+        }
+        state.add((long) x.give(1));
+        state.add(answer(() -> x.soup()));
+        state.add(answer(() -> bit(x.strike())));
+        state.add((long) paydaysLeft(x));
+        state.add(answer(() -> x.close(0)));
+    }
+
+    /** How many paydays can still be held: they are held. */
+    static int paydaysLeft(ScripHollow x) {
+        int left = 0;
+        while (left < 41 && answer(() -> x.payday()) >= 0) {
+            left++;
+        }
+        return left;
     }
 }

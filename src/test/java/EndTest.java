@@ -17,26 +17,9 @@ public final class EndTest {
         due.end();
     }
 
-    /** The miner 0 has some of all, and both have scrip and coin. */
-    private static ScripHollow estate() {
-        ScripHollow x = Towns.of(2);
-        x.edition(0);
-        x.limit(1000);
-        x.buy(0, 2, 3);
-        x.buy(0, 0, 2); // 11 each, by the debt of 30
-        x.buy(1, 2, 4);
-        Towns.payCoin(x, 11, 12);
-        Towns.pay(x, 13, 14);
-        x.tell(1, 7);
-        Towns.pay(x, 15, 16);
-        x.hew(0, 99);
-        x.kin(0, 1);
-        return x;
-    }
-
     private static void die() {
         due.promise(22, "die");
-        ScripHollow x = estate();
+        ScripHollow x = Towns.estate();
         due.is("die(0)", x.die(0), 1);
         int[] dead = {0, 0, 0, 0, 0, 0, 0, 0, 15, 1};
         int[] heir = {1, 0, 23, 58, 92, 14, 1, 0, 16, -1};
@@ -57,15 +40,15 @@ public final class EndTest {
         x.kin(1, 0);
         due.is("the last", x.die(1), -1);
         due.is("all of it was gone", x.books(4), 58);
-        due.refused("die(2)", Due.INDEX, EndTest::estate, t -> t.die(2));
-        due.refused("die(-1)", Due.INDEX, EndTest::estate, t -> t.die(-1));
-        due.refused("not alive", Due.STATE, () -> Towns.dead(estate(), 0), t -> t.die(0));
+        due.refused("die(2)", Due.INDEX, Towns::estate, t -> t.die(2));
+        due.refused("die(-1)", Due.INDEX, Towns::estate, t -> t.die(-1));
+        due.refused("not alive", Due.STATE, () -> Towns.dead(Towns.estate(), 0), t -> t.die(0));
     }
 
     private static void deathLaw() {
         due.promise(22, "die, DEATH in force");
         for (int obeys = 0; obeys < 2; obeys++) {
-            ScripHollow x = estate();
+            ScripHollow x = Towns.estate();
             x.law(ScripHollow.DEATH, true);
             x.obey(obeys == 1);
             due.is("die(0)", x.die(0), 1);
@@ -82,7 +65,7 @@ public final class EndTest {
 
     private static void noHeir() {
         due.promise(22, "die, without an heir");
-        ScripHollow x = estate();
+        ScripHollow x = Towns.estate();
         x.kin(0, -1);
         due.is("die(0)", x.die(0), -1);
         for (int what = 0; what < 8; what++) {
@@ -154,30 +137,22 @@ public final class EndTest {
         due.refused("vote(-1, true)", Due.INDEX, () -> Towns.of(2), t -> t.vote(-1, true));
     }
 
-    private static ScripHollow votes(int isFor, int isNot) {
-        ScripHollow x = Towns.of(isFor + isNot);
-        for (int m = 0; m < isFor; m++) {
-            x.vote(m, true);
-        }
-        return x;
-    }
-
     private static void strike() {
         due.promise(24, "strike");
-        ScripHollow x = votes(3, 2);
+        ScripHollow x = Towns.votes(3, 2);
         due.is("begins", x.strike(), true);
         x.vote(0, false);
         x.vote(1, false);
         due.is("ends, whatever they are for", x.strike(), false);
-        due.refused("two of five are for it", Due.STATE, () -> votes(2, 3), t -> t.strike());
-        due.refused("two of four are for it", Due.STATE, () -> votes(2, 2), t -> t.strike());
+        due.refused("two of five are for it", Due.STATE, () -> Towns.votes(2, 3), t -> t.strike());
+        due.refused("two of four are for it", Due.STATE, () -> Towns.votes(2, 2), t -> t.strike());
         due.refused("nobody is there", Due.STATE, ScripHollow::new, t -> t.strike());
-        due.is("one of one", votes(1, 0).strike(), true);
-        due.is("of those that are alive", Towns.dead(votes(2, 2), 3).strike(), true);
-        due.refused("the dead do not count", Due.STATE, () -> Towns.dead(votes(3, 2), 0), t -> t.strike());
-        due.refused("all are dead", Due.STATE, () -> Towns.dead(votes(1, 0), 0), t -> t.strike());
-        due.refused("closed", Due.STATE, () -> Towns.closed(votes(3, 2)), t -> t.strike());
-        due.refused("closed in a strike", Due.STATE, () -> Towns.closed(Towns.striking(votes(3, 2))), t -> t.strike());
+        due.is("one of one", Towns.votes(1, 0).strike(), true);
+        due.is("of those that are alive", Towns.dead(Towns.votes(2, 2), 3).strike(), true);
+        due.refused("the dead do not count", Due.STATE, () -> Towns.dead(Towns.votes(3, 2), 0), t -> t.strike());
+        due.refused("all are dead", Due.STATE, () -> Towns.dead(Towns.votes(1, 0), 0), t -> t.strike());
+        due.refused("closed", Due.STATE, () -> Towns.closed(Towns.votes(3, 2)), t -> t.strike());
+        due.refused("closed in a strike", Due.STATE, () -> Towns.closed(Towns.striking(Towns.votes(3, 2))), t -> t.strike());
     }
 
     private static void give() {

@@ -59,6 +59,67 @@ final class Towns {
         return x;
     }
 
+    /** One miner with a house and these arrears, at most 100; the rent is 0. */
+    static ScripHollow inArrears(int arrears) {
+        ScripHollow x = of(1);
+        x.tell(ScripHollow.RENT, arrears);
+        x.payday();
+        x.tell(ScripHollow.RENT, 0);
+        return x;
+    }
+
+    /** All have lost the house and paid their arrears since; the rent is 0. */
+    static ScripHollow homeless(int miners) {
+        ScripHollow x = of(miners);
+        x.tell(ScripHollow.RENT, 100);
+        x.payday();
+        x.tell(ScripHollow.RENT, 1);
+        x.payday();
+        for (int m = 0; m < miners; m++) {
+            x.hew(m, 101);
+        }
+        x.payday();
+        x.tell(ScripHollow.RENT, 0);
+        return x;
+    }
+
+    static ScripHollow afterPaydays(int count) {
+        ScripHollow x = of(1);
+        for (int k = 0; k < count; k++) {
+            x.payday();
+        }
+        return x;
+    }
+
+    /** The first ones are for a strike, the others are not. */
+    static ScripHollow votes(int isFor, int isNot) {
+        ScripHollow x = of(isFor + isNot);
+        for (int m = 0; m < isFor; m++) {
+            x.vote(m, true);
+        }
+        return x;
+    }
+
+    /**
+     * The miner 0, whose kin is 1, has coin 11, scrip 13 and 15 of the issues 1 and 2, a debt of 52, arrears of 7, 2 and
+     * 3 of the goods 0 and 2, and coal; 1 has coin 12, scrip 14 and 16, a debt of 40, arrears of 7, 4 of the goods 2.
+     */
+    static ScripHollow estate() {
+        ScripHollow x = of(2);
+        x.edition(0);
+        x.limit(1000);
+        x.buy(0, 2, 3);
+        x.buy(0, 0, 2);
+        x.buy(1, 2, 4);
+        payCoin(x, 11, 12);
+        pay(x, 13, 14);
+        x.tell(1, 7);
+        pay(x, 15, 16);
+        x.hew(0, 99);
+        x.kin(0, 1);
+        return x;
+    }
+
     static ScripHollow striking(ScripHollow x) {
         x.vote(0, true);
         for (int m = 1; Due.answer(() -> x.strike() ? 1 : 0) < 0; m++) {
