@@ -67,6 +67,29 @@ final class Clause {
         return this;
     }
 
+    /** The call is let through in a town that the turn has changed. */
+    Clause letsIn(String name, Due.Call turn) {
+        due.gives("let through with " + name, 0, town, x -> {
+            turn.on(x);
+            return Due.answer(() -> onceDone(x, arguments.clone()));
+        });
+        return this;
+    }
+
+    Clause letsInStrike() {
+        return letsIn("a strike", Towns::striking);
+    }
+
+    Clause letsInClosed() {
+        return letsIn("the mine closed", x -> x.close(0)).letsIn("the mine closed in a strike",
+                x -> Towns.striking(x).close(0));
+    }
+
+    /** The call is let through whatever the town and the miner 0 are. */
+    Clause letsAlways() {
+        return letsInStrike().letsInClosed().letsIn("the miner 0 dead", x -> x.die(0));
+    }
+
     private long onceDone(ScripHollow x, int[] changed) {
         call.on(x, changed);
         return 0;

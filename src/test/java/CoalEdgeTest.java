@@ -226,6 +226,8 @@ public final class CoalEdgeTest {
         due.gives("none did, though one did before", 0, () -> checked(false), x -> Due.bit(x.check(true)));
         due.gives("where one stands by, no dock is taken", 1000, () -> checked(true), x -> x.hew(0, 1000));
         due.gives("where none stands by any more, it is", 500, () -> checked(false), x -> x.hew(0, 1000));
+        due.gives("in a strike", 1, () -> Towns.striking(checked(true)), x -> Due.bit(x.check(false)));
+        due.gives("in a closed mine", 1, () -> Towns.closed(checked(true)), x -> Due.bit(x.check(false)));
         due.gives("coal that was hewn before stays as it is", 500, () -> checked(false), x -> {
             x.hew(0, 1000);
             x.check(true);

@@ -39,7 +39,7 @@ public final class CoalTest {
         }
         due.is("obey(true)", x.obey(true), false);
         due.is("give(1)", x.give(1), 1);
-        due.is("soup()", Due.answer(() -> x.soup()), Long.MIN_VALUE + 2);
+        due.is("soup()", Due.answer(() -> x.soup()), Due.THREW_STATE);
         due.is("payday()", x.payday(), 0);
         due.is("two objects have nothing in common", new ScripHollow().dock(0), 10);
     }

@@ -20,7 +20,7 @@ final class Due {
     static final Class<? extends RuntimeException> STATE = IllegalStateException.class;
 
     /** What answer() tells of a call that throws, below all that a call answers. */
-    static final long THREW_INDEX = Long.MIN_VALUE, THREW_ARGUMENT = Long.MIN_VALUE + 1, THREW_STATE = Long.MIN_VALUE + 2;
+    static final long THREW_INDEX = Long.MIN_VALUE, THREW_ARGUMENT = THREW_INDEX + 1, THREW_STATE = THREW_INDEX + 2;
 
     private final Set<String> names = new HashSet<>();
     private int wrong;

@@ -57,7 +57,8 @@ public final class EndEdgeTest {
         due.gives("the longest row, downwards", 0,
                 () -> kinOf(new int[] {-1, 0, 1, 2, 3, 4, 5, 6, 7, 8}, 1, 2, 3, 4, 5, 6, 7, 8), x -> x.die(9));
         due.gives("nobody else is there", NONE, () -> Towns.of(1), x -> x.die(0));
-        due.gives("one whose kin one is gets nothing by that", NONE, () -> kinOf(new int[] {NONE, 0, 0}), x -> x.die(0));
+        due.gives("to be the kin of one makes that one no heir", NONE,
+                () -> kinOf(new int[] {NONE, 0, 0}), x -> x.die(0));
     }
 
     private static void heirsRound() {

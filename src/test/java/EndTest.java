@@ -152,7 +152,8 @@ public final class EndTest {
         due.refused("the dead do not count", Due.STATE, () -> Towns.dead(Towns.votes(3, 2), 0), t -> t.strike());
         due.refused("all are dead", Due.STATE, () -> Towns.dead(Towns.votes(1, 0), 0), t -> t.strike());
         due.refused("closed", Due.STATE, () -> Towns.closed(Towns.votes(3, 2)), t -> t.strike());
-        due.refused("closed in a strike", Due.STATE, () -> Towns.closed(Towns.striking(Towns.votes(3, 2))), t -> t.strike());
+        due.refused("closed in a strike", Due.STATE, () -> Towns.closed(Towns.striking(Towns.votes(3, 2))),
+                t -> t.strike());
     }
 
     private static void give() {
@@ -213,7 +214,7 @@ public final class EndTest {
         due.is("close(0)", Towns.paid(5).close(0), 0);
         ScripHollow strike = Towns.striking(Towns.of(1));
         strike.close(0);
-        due.is("a strike ends", Due.answer(() -> strike.soup()), Long.MIN_VALUE + 2);
+        due.is("a strike ends", Due.answer(() -> strike.soup()), Due.THREW_STATE);
         due.refused("close(-1)", Due.ARGUMENT, () -> Towns.closed(Towns.paid(5)), t -> t.close(-1));
         due.refused("close(100001)", Due.ARGUMENT, () -> Towns.paid(5), t -> t.close(100001));
         due.refused("closed", Due.STATE, () -> Towns.closed(Towns.paid(5)), t -> t.close(5));

@@ -55,6 +55,8 @@ public final class LawEdgeTest {
         due.gives("it did not at first", 0, ScripHollow::new, x -> Due.bit(x.obey(false)));
         due.gives("it did, and does", 1, () -> obeyed(inForce()), x -> Due.bit(x.obey(true)));
         due.gives("it did, and does not", 1, () -> obeyed(inForce()), x -> Due.bit(x.obey(false)));
+        due.gives("in a strike", 1, () -> Towns.striking(obeyed(inForce())), x -> Due.bit(x.obey(false)));
+        due.gives("in a closed mine", 1, () -> Towns.closed(obeyed(inForce())), x -> Due.bit(x.obey(false)));
         due.gives("it did not, though it did before", 0, () -> obeyed(inForce()), x -> {
             x.obey(false);
             return Due.bit(x.obey(true));
@@ -168,8 +170,8 @@ public final class LawEdgeTest {
                     x -> breachesOf(x, 1));
             due.gives("the kind " + kind + " took nothing, without a wage", 0, () -> under(k, DEDUCTION),
                     x -> breachesOf(x, 0));
-            due.gives("the kind " + kind + ", what is owed is what it took", kind < 3 ? 0 : 7, () -> under(k, DEDUCTION),
-                    x -> {
+            due.gives("the kind " + kind + ", what is owed is what it took", kind < 3 ? 0 : 7,
+                    () -> under(k, DEDUCTION), x -> {
                         Towns.pay(x, 7);
                         return x.about(0, 7);
                     });

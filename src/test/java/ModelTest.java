@@ -2,7 +2,7 @@ import java.util.Random;
 
 /** Long runs of calls, drawn from a fixed seed, against the model: answers, exceptions, and all that can be asked. */
 public final class ModelTest {
-    private static final long INDEX = Long.MIN_VALUE, ARGUMENT = Long.MIN_VALUE + 1, STATE = Long.MIN_VALUE + 2;
+    private static final long INDEX = Due.THREW_INDEX, ARGUMENT = Due.THREW_ARGUMENT, STATE = Due.THREW_STATE;
     private static final int RUNS = 1500;
     /** An object answers 512 calls: all of them drawn, or some of them kept for a look at one miner at the end. */
     private static final int CALLS = 512, CALLS_AHEAD_OF_LOOK = 400;

@@ -41,6 +41,7 @@ public final class PaydayEdgeTest {
         due.gives("12345, the least of all five", 12345, () -> printed(12345), x -> x.edition(5));
         due.gives("54321, the greatest there is", 54321, () -> printed(54321), x -> x.edition(5));
         due.gives("the same once more", 312, () -> printed(312), x -> x.edition(312));
+        due.gives("in a strike", 12345, () -> Towns.striking(Towns.of(1)), x -> x.edition(1));
         due.gives("in a closed mine", 12345, () -> Towns.closed(Towns.of(1)), x -> x.edition(1));
     }
 
@@ -500,7 +501,7 @@ public final class PaydayEdgeTest {
         due.gives("at the end of the payday 3 no issue", 0, () -> paidInTurn(4), x -> x.books(3));
         due.gives("at the end of the payday 3 the issue 0 stands", 1, () -> paidInTurn(4), x -> x.scrip(0, 0));
         due.gives("at the end of the payday 4 the issue 0 is gone", 0, () -> paidInTurn(5), x -> x.scrip(0, 0));
-        due.gives("at the end of the payday 4 it is gone of the last miner", 0, () -> paidInTurn(5), x -> x.scrip(1, 0));
+        due.gives("at the end of the payday 4 it is gone of the last, too", 0, () -> paidInTurn(5), x -> x.scrip(1, 0));
         due.gives("at the end of the payday 4 the issue 1 stands", 2, () -> paidInTurn(5), x -> x.scrip(0, 1));
         due.gives("at the end of the payday 4 its own issue stands", 5, () -> paidInTurn(5), x -> x.scrip(0, 4));
         due.gives("at the end of the payday 4 the books tell it", 101, () -> paidInTurn(5), x -> x.books(3));
@@ -566,6 +567,16 @@ public final class PaydayEdgeTest {
             ScripHollow x = Towns.of(10);
             due.is("pays", Towns.payCoin(x, 1, 2, 4, 8, 16, 32, 64, 128, 256, 512), 1023);
             due.is("coin of 9", x.about(9, 2), 512);
+        });
+        due.test("coin comes to the coin there was", () -> {
+            ScripHollow x = Towns.coined(5);
+            Towns.payCoin(x, 7);
+            due.is("coin", x.about(0, 2), 12);
+        });
+        due.test("scrip comes to the scrip there was", () -> {
+            ScripHollow x = Towns.paid(5);
+            Towns.pay(x, 7);
+            due.is("scrip", x.about(0, 3), 12);
         });
         due.test("the pay of the dead is not told again", () -> {
             ScripHollow x = Towns.paid(5, 7);

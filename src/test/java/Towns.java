@@ -101,8 +101,9 @@ final class Towns {
     }
 
     /**
-     * The miner 0, whose kin is 1, has coin 11, scrip 13 and 15 of the issues 1 and 2, a debt of 52, arrears of 7, 2 and
-     * 3 of the goods 0 and 2, and coal; 1 has coin 12, scrip 14 and 16, a debt of 40, arrears of 7, 4 of the goods 2.
+     * The miner 0, whose kin is 1, has coin 11, scrip 13 and 15 of the issues 1 and 2, a debt of 52, arrears of 7,
+     * 2 and 3 of the goods 0 and 2, and coal; 1 has coin 12, scrip 14 and 16 of the issues 1 and 2, a debt of 40,
+     * arrears of 7, and 4 of the goods 2.
      */
     static ScripHollow estate() {
         ScripHollow x = of(2);
