@@ -136,13 +136,16 @@ public final class EndEdgeTest {
         due.gives("the scrip that was paid stays told", 58, EndEdgeTest::inherited, x -> x.books(0));
     }
 
-    private static ScripHollow owedToDead() {
+    private static ScripHollow owedToFirst() {
         ScripHollow x = Towns.of(2);
         x.kin(0, 1);
         x.law(ScripHollow.TRUCK, true);
         Towns.pay(x, 9, 0);
-        x.die(0);
         return x;
+    }
+
+    private static ScripHollow owedToDead() {
+        return Towns.dead(owedToFirst(), 0);
     }
 
     /** The miner 0 had a house, the heir 1 has none. */
@@ -406,6 +409,7 @@ public final class EndEdgeTest {
         served("20: all of ten", 20, 10, 1023, 0);
         served("2000: all of ten, the rest is left", 2000, 10, 1023, 1980);
         served("100 and one miner: one", 100, 1, 1, 98);
+        due.gives("also for those without a house", 3, EndEdgeTest::homelessInStrike, x -> x.soup());
         due.gives("none for the dead", 2, () -> Towns.dead(funded(100, 2), 0), x -> x.soup());
         due.gives("nobody alive: nobody", 0, () -> Towns.dead(funded(100, 1), 0), x -> x.soup());
         due.gives("nobody alive: the fund stays", 101, () -> Towns.dead(funded(100, 1), 0), x -> {
@@ -421,6 +425,12 @@ public final class EndEdgeTest {
             x.soup();
             return x.soup();
         });
+    }
+
+    private static ScripHollow homelessInStrike() {
+        ScripHollow x = Towns.striking(Towns.homeless(2));
+        x.give(4);
+        return x;
     }
 
     /** A strike in which the fund has 2; each has so much scrip and coin. */
@@ -460,7 +470,8 @@ public final class EndEdgeTest {
             return x.soup();
         });
         due.gives("scrip of all issues", 2, EndEdgeTest::oldAndNewScrip, x -> x.soup());
-        due.gives("goods and debt do not count", 1, EndEdgeTest::goodsAndDebt, x -> x.soup());
+        due.gives("goods and debt make nobody have more", 1, () -> goodsAndDebt(0), x -> x.soup());
+        due.gives("goods and debt make nobody have less", 1, () -> goodsAndDebt(1), x -> x.soup());
         due.gives("coal does not count", 1, EndEdgeTest::coalOfTheFirst, x -> x.soup());
         due.gives("the least being dead, the next", 2, () -> Towns.dead(hungry(new int[] {1, 2, 3}, new int[3]), 0),
                 x -> x.soup());
@@ -478,9 +489,9 @@ public final class EndEdgeTest {
         return x;
     }
 
-    private static ScripHollow goodsAndDebt() {
+    private static ScripHollow goodsAndDebt(int miner) {
         ScripHollow x = Towns.of(2);
-        x.buy(0, 0, 20);
+        x.buy(miner, 0, 20);
         Towns.striking(x);
         x.give(2);
         return x;
@@ -636,6 +647,10 @@ public final class EndEdgeTest {
         due.gives("the house stays", 1, () -> closedFor(1000, Towns.estate()), x -> x.about(0, 6));
         due.gives("the coal stays", 99, () -> closedFor(1000, Towns.estate()), x -> x.about(0, 1));
         due.gives("the goods stay", 3, () -> closedFor(1000, Towns.estate()), x -> x.has(0, 2));
+        due.gives("the fund stays", 10, () -> closedFor(1000, funded(9, 1)), x -> x.give(1));
+        due.gives("who is for a strike stays told", 1, () -> closedFor(1000, funded(9, 1)),
+                x -> Due.bit(x.vote(0, false)));
+        due.gives("what is owed by law stays", 9, () -> closedFor(1000, owedToFirst()), x -> x.about(0, 7));
         due.gives("the dead get nothing", 0, () -> closedFor(1000, Towns.dead(Towns.paid(9, 9), 0)),
                 x -> x.about(0, 2));
         due.gives("expired scrip is not paid for", 100, EndEdgeTest::expired, x -> x.close(100));

@@ -313,6 +313,14 @@ public final class PaydayEdgeTest {
             due.is("pay", Towns.pay(x, 50), 50);
             due.is("arrears", x.about(0, 5), 40);
         });
+        due.test("the rent is not in the edition any more: what it took before is not taken again", () -> {
+            ScripHollow x = printed(1);
+            x.tell(RENT, 20);
+            Towns.pay(x, 20);
+            x.edition(2);
+            x.payday();
+            due.is("arrears", x.about(0, 5), 20);
+        });
         due.test("both together, just as much as the wage", () -> {
             ScripHollow x = Towns.inArrears(7);
             x.tell(RENT, 20);
@@ -374,6 +382,21 @@ public final class PaydayEdgeTest {
             x.edition(1234);
             due.is("pay", Towns.pay(x, 50), 50);
             due.is("debt", x.about(0, 4), 30);
+        });
+        due.test("the store is not in the edition any more: what it took before is not taken again", () -> {
+            ScripHollow x = Towns.indebted(30);
+            Towns.pay(x, 10);
+            x.edition(2);
+            x.payday();
+            due.is("debt", x.about(0, 4), 20);
+        });
+        due.test("the store is passed by, by law: what it took before is not taken again", () -> {
+            ScripHollow x = Towns.indebted(30);
+            Towns.pay(x, 10);
+            x.law(ScripHollow.DEDUCTION, true);
+            x.obey(true);
+            x.payday();
+            due.is("debt", x.about(0, 4), 20);
         });
         due.test("what the store took is no scrip that came back", () -> {
             ScripHollow x = Towns.indebted(30);

@@ -30,6 +30,7 @@ public final class QuestionEdgeTest {
             due.changesNothing(what + ", " + names[what] + ", is a question", Towns::estate, x -> x.about(0, w));
         }
         due.gives("0, dead", 0, () -> Towns.dead(Towns.of(10), 9), x -> x.about(9, 0));
+        due.gives("0, without a house", 1, () -> Towns.homeless(1), x -> x.about(0, 0));
         due.gives("0, beside one dead", 1, () -> Towns.dead(Towns.of(10), 9), x -> x.about(8, 0));
         due.gives("3, of the first and the last issue that stand", 36 + 37 + 38 + 39, () -> allIssues(),
                 x -> x.about(0, 3));

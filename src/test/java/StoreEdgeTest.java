@@ -118,6 +118,8 @@ public final class StoreEdgeTest {
         due.gives("1 less scrip and coin", 3, () -> limited(0, with(0, 10, 19)), x -> x.whyNot(0, 0, 3));
         due.gives("scrip, coin and credit, just enough", 0, () -> limited(5, with(0, 10, 15)), x -> x.whyNot(0, 0, 3));
         due.gives("scrip, coin and credit, 1 less", 3, () -> limited(4, with(0, 10, 15)), x -> x.whyNot(0, 0, 3));
+        due.gives("each is rounded down, not all together", 0, () -> limited(39, with(19, 0, 0)),
+                x -> x.whyNot(0, 0, 2));
         due.gives("at the limit, and paid", 0, () -> limited(100, with(100, 15, 0)), x -> x.whyNot(0, 0, 1));
         due.gives("at the limit, and 1 not paid", 3, () -> limited(100, with(100, 14, 0)), x -> x.whyNot(0, 0, 1));
         due.gives("above the limit, not more than it is", 0, () -> limited(50, with(100, 15, 0)),
